@@ -498,8 +498,12 @@ public final class PromiseTest {
         due("OLD", Check.of("ec151;b000;s001;s401;").best(1), 0);
         due("NEW", Check.of("ee151;b000;s001;s401;").best(1), 1);
         due("MIX", Check.of("ec251;b000;s001;s101;s401;").best(1), 2);
-        // The second eats fresh alone and has the more of it, if the first leaves it.
-        due("THRIFTY", Check.of("ee111;ec291;b000;s301;s004;c001;ho;").best(0), 0);
+        // A CRUST of BASE 0 has a worth of 1 from AGE 3 on: a house that spares wins.
+        due("THRIFTY: one of three fresh is left till then", Check.of("ec101;b000;s003;c000;").best(4), 3);
+        due("STINGY: two of three are left till then", Check.of("ec201;b000;s203;c000;").best(3), 5);
+        // 6 + 4 + 6, while OLD and MIX have 6 + 6 + 3.
+        due("BOTH", Check.of("ec151;b000;s401;s201;s001;c000;").best(3), 4);
+        due("best(0)", Check.of("ee151;b000;s001;s401;hn;").best(0), 0);
         due("nobody", new AlwaysYesterdays().best(28), 0);
         AlwaysYesterdays x = Check.of("ee151;b000;s001;s401;hs;");
         due("best(29)", x.best(29), -6);
