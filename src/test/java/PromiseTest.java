@@ -45,14 +45,8 @@ public final class PromiseTest {
         CHECK.due(call, got, want);
     }
 
-    /** That today just these AGES are EATEN, one behind the other. */
     private static void eats(String what, AlwaysYesterdays x, int... ages) {
-        Check.row(x, ages);
-        due(what + " eats so", x.judge(), -9);
-        due(what + " eats no more", x.total(1, 1), ages.length);
-        Check.row(x, ages);
-        x.row(0);
-        due(what + ", beyond what is EATEN", x.judge(), ages.length);
+        CHECK.eats(what, x, ages);
     }
 
     private static void newObject() {
@@ -146,7 +140,7 @@ public final class PromiseTest {
         for (int i = 0; i < texts.length; i++) {
             AlwaysYesterdays x = new AlwaysYesterdays();
             due("house of '" + texts[i] + "'", Check.tell(x, texts[i]), -1000 - places[i]);
-            due("nothing is counted", refusals(x), 0);
+            due("nothing is counted", Check.refusals(x), 0);
             due("letters are no more", x.count(8), 0);
         }
         AlwaysYesterdays x = new AlwaysYesterdays();
@@ -162,7 +156,7 @@ public final class PromiseTest {
         for (int i = 0; i < texts.length; i++) {
             AlwaysYesterdays x = new AlwaysYesterdays();
             due("house of '" + texts[i] + "'", Check.tell(x, texts[i]), -2000 - places[i]);
-            due("nothing is counted", refusals(x), 0);
+            due("nothing is counted", Check.refusals(x), 0);
             due("letters are no more", x.count(8), 0);
         }
     }
@@ -175,14 +169,6 @@ public final class PromiseTest {
             Check.tell(x, "ef111;s360;wxxxxxxx;b010;hn;c000;d;" + fault);
             CHECK.that("all is as it was", was.equals(snapshot(x)));
         }
-    }
-
-    private static int refusals(AlwaysYesterdays x) {
-        int all = 0;
-        for (int what = 11; what <= 16; what++) {
-            all += x.count(what);
-        }
-        return all;
     }
 
     private static String snapshot(AlwaysYesterdays x) {
@@ -296,7 +282,7 @@ public final class PromiseTest {
         due("worth(-1, 0)", x.worth(-1, 0), -1);
         due("worth(0, 5)", x.worth(0, 5), -1);
         due("worth(0, -1)", x.worth(0, -1), -1);
-        due("-9 is no REFUSAL", refusals(x), 4);
+        due("-9 is no REFUSAL", Check.refusals(x), 4);
     }
 
     private static void dayOnBuys() {
@@ -488,7 +474,7 @@ public final class PromiseTest {
         due("no day is OPEN", shut.less(5), -9);
         due("no day is OPEN, below", shut.less(-1), -4);
         due("no day is OPEN, above", shut.less(29), -6);
-        due("-9 is no REFUSAL", refusals(shut), 2);
+        due("-9 is no REFUSAL", Check.refusals(shut), 2);
         due("less(29)", x.less(29), -6);
         due("less(-1)", x.less(-1), -4);
     }
@@ -809,6 +795,6 @@ public final class PromiseTest {
         for (int what : new int[] {-1, 9, 10, 17, Integer.MIN_VALUE, Integer.MAX_VALUE}) {
             due("count(" + what + ")", x.count(what), -9);
         }
-        due("-9 is no REFUSAL", refusals(x), 7);
+        due("-9 is no REFUSAL", Check.refusals(x), 7);
     }
 }

@@ -8,19 +8,38 @@ public final class RefusalTest {
     private static final long INTS = 1000000000L;
     private static final long LONGS = 4000000000000000000L;
 
+    // Whether all is full, or some of it is there alone.
+    private static boolean full;
+
     public static void main(String[] args) {
-        told();
-        reckoned();
-        rows();
+        for (boolean each : new boolean[] {false, true}) {
+            full = each;
+            told();
+            reckoned();
+            rows();
+        }
+        noImage();
+        fullOfLetters();
+        fullOfNumbers();
         CHECK.end("RefusalTest");
     }
 
-    /** A HOUSE with two EATERS, a ROW of four, two letters, and no image. */
-    private static AlwaysYesterdays some() {
+    /** With two EATERS, a ROW of four, two letters and no image; or full of them, with an image. */
+    private static AlwaysYesterdays made() {
         AlwaysYesterdays x = Check.of("ec355;ep279;s203;s304;wooxoxoo;b042;hm;c315;d;");
+        if (full) {
+            Check.tell(x, "ee991;ea119;");
+            x.image();
+            Check.tell(x, "s160;s460;hb;d;");
+        }
         Check.row(x, 0, 1, 2, 3);
-        x.letter('d');
-        x.letter(';');
+        for (int i = 0; i < (full ? 16 : 0); i++) {
+            x.row(i);
+        }
+        for (int i = 0; i < (full ? 48 : 1); i++) {
+            x.letter('d');
+            x.letter(';');
+        }
         return x;
     }
 
@@ -30,8 +49,8 @@ public final class RefusalTest {
 
     private static void refused(String call, int refusal, long as, ToLongFunction<AlwaysYesterdays> of) {
         CHECK.promise(call);
-        AlwaysYesterdays x = some();
-        AlwaysYesterdays other = some();
+        AlwaysYesterdays x = made();
+        AlwaysYesterdays other = made();
         CHECK.due("the call", of.applyAsLong(x), as);
         CHECK.due("the call again", of.applyAsLong(x), as);
         for (int what = 11; what <= 16; what++) {
@@ -46,7 +65,7 @@ public final class RefusalTest {
             s.append(x.count(what)).append(' ');
         }
         s.append(x.fits()).append(' ').append(x.judge()).append(' ').append(x.house()).append(' ');
-        for (int e = 0; e < 2; e++) {
+        for (int e = x.count(0) - 1; e >= 0; e--) {
             for (int what = 0; what < 4; what++) {
                 s.append(x.eater(e, what)).append(' ');
             }
@@ -65,7 +84,8 @@ public final class RefusalTest {
         for (int day = 0; day < 7; day++) {
             s.append(x.open(day, 0)).append(' ');
         }
-        return s.append(x.on()).toString();
+        s.append(x.on()).append(' ');
+        return s.append(Check.household(x)).toString();
     }
 
     private static void told() {
@@ -75,7 +95,7 @@ public final class RefusalTest {
         for (int c : new int[] {256, HIGH}) {
             refused("letter(" + c + ")", -6, x -> x.letter(c));
         }
-        for (int e : new int[] {-1, 2, LOW, HIGH}) {
+        for (int e : new int[] {-1, full ? 4 : 2, LOW, HIGH}) {
             refused("eater(" + e + ", 9)", -1, x -> x.eater(e, 9));
             refused("worth(" + e + ", 0)", -1, x -> x.worth(e, 0));
             refused("worth(" + e + ", 5)", -1, x -> x.worth(e, 5));
@@ -112,7 +132,25 @@ public final class RefusalTest {
             refused("set(" + what + ", above)", -6, x -> x.set(at, most[at] + 1));
             refused("set(" + what + ", HIGH)", -6, x -> x.set(at, HIGH));
         }
-        refused("on()", -3, AlwaysYesterdays::on);
+    }
+
+    private static void noImage() {
+        full = false;
+        refused("on(), no image", -3, AlwaysYesterdays::on);
+    }
+
+    private static void fullOfLetters() {
+        full = true;
+        for (int c : new int[] {0, 'd', 255}) {
+            refused("letter(" + c + "), the 97th", -6, x -> x.letter(c));
+        }
+    }
+
+    private static void fullOfNumbers() {
+        full = true;
+        for (int v : new int[] {0, 99}) {
+            refused("row(" + v + "), the 21st", -6, x -> x.row(v));
+        }
     }
 
     private static void reckoned() {
@@ -153,7 +191,10 @@ public final class RefusalTest {
         for (int n : new int[] {7, HIGH}) {
             refused("bottles(" + n + ")", -6, x -> x.bottles(n));
         }
-        refused("bottles(1), a ROW of four", -3, x -> x.bottles(1));
+        for (int n = 1; n <= 6; n++) {
+            int days = n;
+            refused("bottles(" + n + "), a ROW of four or of 20", -3, x -> x.bottles(days));
+        }
         refused("row(-1)", -4, x -> x.row(-1));
         refused("row(LOW)", -4, x -> x.row(LOW));
         refused("row(100)", -6, x -> x.row(100));
