@@ -24,7 +24,10 @@ public final class FaceTest {
     public static void main(String[] args) throws IOException {
         face();
         classesInside();
-        words(Files.readString(Path.of("src/main/java/AlwaysYesterdays.java")));
+        String source = Files.readString(Path.of("src/main/java/AlwaysYesterdays.java"));
+        words(source);
+        shortMethods(source);
+        joinsNoTexts(source);
         CHECK.end("FaceTest");
     }
 
@@ -108,5 +111,22 @@ public final class FaceTest {
             CHECK.that(library.group() + " is of the library's part",
                 Set.of("Math.max", "Math.min", "Math.abs", "Arrays.fill", "System.arraycopy").contains(library.group()));
         }
+    }
+
+    private static void shortMethods(String source) {
+        CHECK.promise("rule 11");
+        Matcher m = Pattern.compile("(?ms)^((?: {4}){1,2})(?! )[^\n=;]*\\b(\\w+)\\([^\n;]*\\) \\{$.*?^\\1\\}$").matcher(source);
+        int methods = 0;
+        while (m.find()) {
+            methods++;
+            long lines = m.group().lines().count();
+            CHECK.that(m.group(2) + " has " + lines + " lines, some sixty at most", lines <= 60);
+        }
+        CHECK.that("its methods are seen: " + methods, methods >= FACE.length);
+    }
+
+    private static void joinsNoTexts(String source) {
+        CHECK.promise("rule 10");
+        CHECK.that("no text is joined by +", !Pattern.compile("\"\\s*\\+|\\+=?\\s*\"").matcher(source).find());
     }
 }
